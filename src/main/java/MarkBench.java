@@ -169,7 +169,10 @@ public final class MarkBench {
     }
 
     public long ways(int gap) {
-        return isGap(gap) ? sheet.waysWithin(gap) : NONE;
+        if (!isGap(gap)) {
+            return NONE;
+        }
+        return sheet.hasWay() ? sheet.waysWithin(gap) : 0;
     }
 
     public int sure(int word, int gap) {
@@ -285,33 +288,32 @@ public final class MarkBench {
         sheet.forget(book.pairCosts, metre);
     }
 
-    /** What a byte is. */
+    /** What a byte is, and how letters compare. */
     private static final class Letters {
-        private static final String VOWELS = "aeiou";
+        private static final String VOWELS = "aeiouAEIOU";
+        /** The bit by which a letter and the MARKED one differ. */
+        private static final int MARK = 32;
 
         static boolean isMarked(char c) {
             return c >= 'A' && c <= 'Z';
         }
 
         static boolean isLetter(char c) {
-            return c >= 'a' && c <= 'z' || isMarked(c);
+            return c >= 'a' && c <= 'z' || c >= 'A' && c <= 'Z';
         }
 
         static boolean isDigit(char c) {
             return c >= '0' && c <= '9';
         }
 
-        static char bareOf(char c) {
-            return isMarked(c) ? (char) (c - 'A' + 'a') : c;
-        }
-
         static boolean isVowel(char c) {
-            return VOWELS.indexOf(bareOf(c)) >= 0;
+            return VOWELS.indexOf(c) >= 0;
         }
 
+        /** Whether letters, of both there is nothing else, are BARE alike. */
         static boolean areAlike(char[] one, int oneAt, char[] other, int otherAt, int length) {
             for (int k = 0; k < length; k++) {
-                if (bareOf(one[oneAt + k]) != bareOf(other[otherAt + k])) {
+                if ((one[oneAt + k] | MARK) != (other[otherAt + k] | MARK)) {
                     return false;
                 }
             }
@@ -350,7 +352,7 @@ public final class MarkBench {
         }
 
         void put(int index, char[] text, int at, int length) {
-            System.arraycopy(text, at, letters, startOf(index), length);
+            System.arraycopy(text, at, letters, index * MOST_LETTERS, length);
             lengths[index] = length;
         }
 
@@ -449,45 +451,110 @@ public final class MarkBench {
         }
     }
 
+    /** A book's text as tokens; the last is the text's end, or what is no token. */
+    private static final class Tokens {
+        static final int FORM = 0;
+        static final int NUMBER = 1;
+        static final int SIGN = 2;
+        static final int TEXT_END = 3;
+        static final int NO_TOKEN = 4;
+
+        private static final int MOST_DIGITS = 6;
+
+        final int[] sorts = new int[MOST_TAPE + 1];
+        final int[] places = new int[MOST_TAPE + 1];
+        final int[] lengths = new int[MOST_TAPE + 1];
+        final int[] values = new int[MOST_TAPE + 1];
+        int count = 0;
+
+        void split(char[] text, int textLength) {
+            count = 0;
+            int at = 0;
+            int numberEnd = NONE;
+            while (at < textLength) {
+                char c = text[at];
+                if (c == BLANK || c == NEW_LINE) {
+                    at++;
+                } else if (Letters.isLetter(c) && at != numberEnd) {
+                    at = addForm(text, at, textLength);
+                } else if (Letters.isDigit(c)) {
+                    at = addNumber(text, at, textLength);
+                    numberEnd = at;
+                } else if (c == ';') {
+                    add(SIGN, at, 1, 0);
+                    at++;
+                } else {
+                    add(NO_TOKEN, at, 1, 0);
+                    return;
+                }
+            }
+            add(TEXT_END, at, 0, 0);
+        }
+
+        private int addForm(char[] text, int at, int textLength) {
+            int last = Math.min(textLength, at + MOST_LETTERS);
+            int behind = at + 1;
+            while (behind < last && Letters.isLetter(text[behind])) {
+                behind++;
+            }
+            add(FORM, at, behind - at, 0);
+            return behind;
+        }
+
+        private int addNumber(char[] text, int at, int textLength) {
+            int last = Math.min(textLength, at + MOST_DIGITS);
+            int behind = at;
+            int value = 0;
+            while (behind < last && Letters.isDigit(text[behind])) {
+                value = value * 10 + (text[behind] - '0');
+                behind++;
+            }
+            add(NUMBER, at, behind - at, value);
+            return behind;
+        }
+
+        private void add(int sort, int at, int length, int value) {
+            if (count <= MOST_TAPE) {
+                sorts[count] = sort;
+                places[count] = at;
+                lengths[count] = length;
+                values[count] = value;
+                count++;
+            }
+        }
+    }
+
     /** Reads a book's text, token by token, up to its first fault. */
     private static final class BookReader {
-        private static final int FORM = 0;
-        private static final int NUMBER = 1;
-        private static final int SIGN = 2;
-        private static final int TEXT_END = 3;
-        private static final int NO_TOKEN = 4;
-
         private static final int FAULT_NO_TOKEN = 1;
         private static final int FAULT_MISPLACED = 2;
         private static final int FAULT_TOLD = 3;
         private static final int FAULT_NUMBER = 4;
         private static final int FAULT_UNLIKE = 5;
 
-        private static final int MOST_DIGITS = 6;
-
         int fault = 0;
         int faultAt = NONE;
+        private final Tokens tokens = new Tokens();
         private char[] text = null;
-        private int textLength = 0;
         private Book book = null;
-        private int sort = TEXT_END;
+        private int next = 0;
+        private int sort = Tokens.TEXT_END;
         private int at = 0;
-        private int behind = 0;
+        private int length = 0;
         private int value = 0;
 
         /** Fills the book that is handed in; what it holds after a fault is of no use. */
-        boolean read(char[] from, int length, Book into) {
+        boolean read(char[] from, int fromLength, Book into) {
             text = from;
-            textLength = length;
             book = into;
             book.clear();
+            tokens.split(from, fromLength);
             fault = 0;
             faultAt = NONE;
-            sort = TEXT_END;
-            behind = 0;
-            for (int lines = 0; lines <= textLength; lines++) {
+            next = 0;
+            for (int lines = 0; lines < tokens.count; lines++) {
                 advance();
-                if (sort == TEXT_END) {
+                if (sort == Tokens.TEXT_END) {
                     return true;
                 }
                 if (!readLine()) {
@@ -498,9 +565,6 @@ public final class MarkBench {
         }
 
         private boolean readLine() {
-            if (!stands(FORM)) {
-                return false;
-            }
             if (isWord("word")) {
                 return readWord();
             }
@@ -519,19 +583,19 @@ public final class MarkBench {
             if (isWord("bare")) {
                 return readBare();
             }
-            return refuse(FAULT_MISPLACED, at);
+            return misplaced();
         }
 
         private boolean readWord() {
             int entry = book.words.count;
             if (entry >= MOST_ENTRIES) {
-                return refuse(FAULT_MISPLACED, at);
+                return misplaced();
             }
             if (!takeForm()) {
                 return false;
             }
             int formAt = at;
-            int formLength = behind - at;
+            int formLength = length;
             if (!takeNumber(LAST_KIND)) {
                 return false;
             }
@@ -569,24 +633,24 @@ public final class MarkBench {
                 book.until[entry] = value;
                 advance();
             }
-            return stands(SIGN);
+            return stands(Tokens.SIGN);
         }
 
         private boolean readEnd() {
             int index = book.ends.count;
             if (index >= MOST_ENDS) {
-                return refuse(FAULT_MISPLACED, at);
+                return misplaced();
             }
             if (!takeForm()) {
                 return false;
             }
             int firstAt = at;
-            int firstLength = behind - at;
+            int firstLength = length;
             if (!takeForm()) {
                 return false;
             }
             int secondAt = at;
-            if (behind - at != firstLength || !Letters.areAlike(text, firstAt, text, secondAt, firstLength)) {
+            if (length != firstLength || !Letters.areAlike(text, firstAt, text, secondAt, firstLength)) {
                 return refuse(FAULT_UNLIKE, secondAt);
             }
             if (!takeNumber(LAST_KIND)) {
@@ -606,13 +670,13 @@ public final class MarkBench {
 
         private boolean readName() {
             if (book.names.count >= MOST_NAMES) {
-                return refuse(FAULT_MISPLACED, at);
+                return misplaced();
             }
             if (!takeForm()) {
                 return false;
             }
             int formAt = at;
-            int formLength = behind - at;
+            int formLength = length;
             if (book.hasName(text, formAt, formLength)) {
                 return refuse(FAULT_TOLD, formAt);
             }
@@ -625,7 +689,7 @@ public final class MarkBench {
 
         private boolean readPair(boolean costs) {
             if (book.pairCount >= MOST_PAIRS) {
-                return refuse(FAULT_MISPLACED, at);
+                return misplaced();
             }
             if (!takeNumber(LAST_KIND)) {
                 return false;
@@ -655,7 +719,7 @@ public final class MarkBench {
 
         private boolean readBare() {
             if (book.bareTold) {
-                return refuse(FAULT_MISPLACED, at);
+                return misplaced();
             }
             if (!takeNumber(LAST_KIND)) {
                 return false;
@@ -671,24 +735,30 @@ public final class MarkBench {
 
         private boolean takeForm() {
             advance();
-            return stands(FORM);
+            return stands(Tokens.FORM);
         }
 
         private boolean takeSign() {
             advance();
-            return stands(SIGN);
+            return stands(Tokens.SIGN);
         }
 
         private boolean takeNumber(int most) {
             advance();
-            return stands(NUMBER) && (value <= most || refuse(FAULT_NUMBER, at));
+            if (sort != Tokens.NUMBER) {
+                return misplaced();
+            }
+            return value <= most || refuse(FAULT_NUMBER, at);
         }
 
         private boolean stands(int asked) {
-            if (sort == NO_TOKEN) {
-                return refuse(FAULT_NO_TOKEN, at);
-            }
-            return sort == asked || refuse(FAULT_MISPLACED, at);
+            return sort == asked || misplaced();
+        }
+
+        private boolean misplaced() {
+            fault = sort == Tokens.NO_TOKEN ? FAULT_NO_TOKEN : FAULT_MISPLACED;
+            faultAt = at;
+            return false;
         }
 
         private boolean refuse(int kind, int place) {
@@ -698,10 +768,10 @@ public final class MarkBench {
         }
 
         private boolean isWord(String word) {
-            if (sort != FORM || behind - at != word.length()) {
+            if (sort != Tokens.FORM || length != word.length()) {
                 return false;
             }
-            for (int k = 0; k < word.length(); k++) {
+            for (int k = 0; k < length; k++) {
                 if (text[at + k] != word.charAt(k)) {
                     return false;
                 }
@@ -709,44 +779,14 @@ public final class MarkBench {
             return true;
         }
 
+        /** The last token stays, however often it is passed: nothing can stand behind it. */
         private void advance() {
-            int numberEnd = sort == NUMBER ? behind : NONE;
-            skipBlanks();
-            if (at >= textLength) {
-                sort = TEXT_END;
-                behind = at;
-            } else if (Letters.isLetter(text[at]) && at != numberEnd) {
-                advanceOverForm();
-            } else if (Letters.isDigit(text[at])) {
-                advanceOverNumber();
-            } else {
-                sort = text[at] == ';' ? SIGN : NO_TOKEN;
-                behind = at + 1;
-            }
-        }
-
-        private void skipBlanks() {
-            at = behind;
-            while (at < textLength && (text[at] == BLANK || text[at] == NEW_LINE)) {
-                at++;
-            }
-        }
-
-        private void advanceOverForm() {
-            sort = FORM;
-            behind = at;
-            while (behind < textLength && behind - at < MOST_LETTERS && Letters.isLetter(text[behind])) {
-                behind++;
-            }
-        }
-
-        private void advanceOverNumber() {
-            sort = NUMBER;
-            value = 0;
-            behind = at;
-            while (behind < textLength && behind - at < MOST_DIGITS && Letters.isDigit(text[behind])) {
-                value = value * 10 + (text[behind] - '0');
-                behind++;
+            if (next < tokens.count) {
+                sort = tokens.sorts[next];
+                at = tokens.places[next];
+                length = tokens.lengths[next];
+                value = tokens.values[next];
+                next++;
             }
         }
     }
@@ -888,19 +928,17 @@ public final class MarkBench {
             int at = line.starts[word];
             int length = line.lengths[word];
             counts[word] = 0;
-            bareWeights[word] = vowelsIn(line.text, at, length);
             if (settled != NONE) {
                 addEntry(word, book, settled);
-                return;
-            }
-            if (line.kept[word] || book.hasName(line.text, at, length)) {
+            } else if (line.kept[word] || book.hasName(line.text, at, length)) {
                 add(word, line.text, at, length, KEPT_KIND, 0);
-                return;
+            } else {
+                fillByWords(word, line, book);
+                if (counts[word] == 0) {
+                    fillByEnds(word, line, book);
+                }
             }
-            fillByWords(word, line, book);
-            if (counts[word] == 0) {
-                fillByEnds(word, line, book);
-            }
+            weigh(word);
         }
 
         private void fillByWords(int word, Line line, Book book) {
@@ -926,20 +964,24 @@ public final class MarkBench {
                         && Letters.keepsMarks(ends.letters, ends.startOf(k), line.text, tailAt, tail)) {
                     System.arraycopy(line.text, at, draft, 0, length);
                     System.arraycopy(ends.letters, ends.startOf(k), draft, length - tail, tail);
-                    addNew(word, draft, 0, length, book.endKinds[k], book.endCosts[k]);
+                    if (isNew(word, draft, 0, length)) {
+                        add(word, draft, 0, length, book.endKinds[k], book.endCosts[k]);
+                    }
                 }
             }
-            addNew(word, line.text, at, length, book.bareKind, book.bareCost);
+            if (isNew(word, line.text, at, length)) {
+                add(word, line.text, at, length, book.bareKind, book.bareCost);
+            }
         }
 
-        private void addNew(int word, char[] text, int at, int length, int kind, int cost) {
+        private boolean isNew(int word, char[] text, int at, int length) {
             int first = word * MOST_READINGS;
             for (int slot = first; slot < first + counts[word]; slot++) {
                 if (spellings.isSpelled(slot, text, at, length)) {
-                    return;
+                    return false;
                 }
             }
-            add(word, text, at, length, kind, cost);
+            return true;
         }
 
         private void addEntry(int word, Book book, int entry) {
@@ -960,29 +1002,25 @@ public final class MarkBench {
             spellings.put(slot, text, at, length);
             kinds[slot] = kind;
             costs[slot] = cost;
-            gains[slot] = markedVowelsIn(text, at, length);
             entries[slot] = NONE;
             return slot;
         }
 
-        private static int vowelsIn(char[] text, int at, int length) {
-            int found = 0;
-            for (int k = at; k < at + length; k++) {
-                if (Letters.isVowel(text[k])) {
-                    found++;
+        private void weigh(int word) {
+            int first = word * MOST_READINGS;
+            for (int slot = first; slot < first + counts[word]; slot++) {
+                int vowels = 0;
+                int marked = 0;
+                for (int k = 0; k < spellings.lengths[slot]; k++) {
+                    char c = spellings.letterAt(slot, k);
+                    if (Letters.isVowel(c)) {
+                        vowels++;
+                        marked += Letters.isMarked(c) ? 1 : 0;
+                    }
                 }
+                bareWeights[word] = vowels;
+                gains[slot] = marked;
             }
-            return found;
-        }
-
-        private static int markedVowelsIn(char[] text, int at, int length) {
-            int found = 0;
-            for (int k = at; k < at + length; k++) {
-                if (Letters.isMarked(text[k]) && Letters.isVowel(text[k])) {
-                    found++;
-                }
-            }
-            return found;
         }
 
         boolean areSpelledAlike(int slot, int other) {
@@ -1393,10 +1431,8 @@ public final class MarkBench {
             return through[slot] < FAR ? through[slot] : NONE;
         }
 
+        /** There must be a way. */
         long waysWithin(int gap) {
-            if (!hasWay()) {
-                return 0;
-            }
             if (choices.words == 0) {
                 return 1;
             }
