@@ -471,7 +471,7 @@ public final class MarkBench {
             count = 0;
             int at = 0;
             int numberEnd = NONE;
-            while (at < textLength) {
+            for (int steps = 0; steps < textLength && at < textLength; steps++) {
                 char c = text[at];
                 if (c == BLANK || c == NEW_LINE) {
                     at++;

@@ -1,3 +1,5 @@
+import java.util.ArrayList;
+import java.util.List;
 import java.util.Random;
 
 /** Runs of calls by chance (the same each time), each answered by the class and by the model. */
@@ -11,6 +13,8 @@ public final class ModelTest {
     private MarkBench x;
     private Model y;
     private String trace = "";
+    /** What the latest book's text tells as words, for lines to take up. */
+    private final List<String> told = new ArrayList<>();
 
     public static void main(String[] args) {
         ModelTest test = new ModelTest();
@@ -127,6 +131,7 @@ public final class ModelTest {
     private String bookText() {
         StringBuilder text = new StringBuilder();
         int lines = dice.nextInt(14);
+        told.clear();
         int kinds = 1 + dice.nextInt(7);
         for (int k = 0; k < lines; k++) {
             String kind = number(kinds);
@@ -138,7 +143,7 @@ public final class ModelTest {
                         .append(number(99)).append(" ;");
                 case 3 -> text.append("bar ").append(kind).append(gap).append(number(kinds)).append(';');
                 case 4 -> text.append("bare ").append(kind).append(gap).append(number(99)).append(';');
-                default -> text.append("word ").append(form(3)).append(gap).append(kind).append(gap)
+                default -> text.append("word ").append(toldForm()).append(gap).append(kind).append(gap)
                         .append(number(99)).append(days()).append(';');
             }
             text.append(dice.nextInt(3) == 0 ? "" : gap);
@@ -146,13 +151,23 @@ public final class ModelTest {
         return spoilt(text, 6);
     }
 
+    private String toldForm() {
+        told.add(told.isEmpty() || dice.nextInt(3) == 0 ? form(3) : marked(told.get(dice.nextInt(told.size())), 2));
+        return told.get(told.size() - 1);
+    }
+
+    /** Some of its letters marked, one of so many. */
+    private String marked(String form, int times) {
+        StringBuilder text = new StringBuilder();
+        for (char c : form.toLowerCase().toCharArray()) {
+            text.append(dice.nextInt(times) == 0 ? Character.toUpperCase(c) : c);
+        }
+        return text.toString();
+    }
+
     private String endForms() {
         String first = form(2);
-        StringBuilder second = new StringBuilder();
-        for (char c : first.toCharArray()) {
-            second.append(dice.nextBoolean() ? Character.toUpperCase(c) : Character.toLowerCase(c));
-        }
-        return first + " " + (dice.nextInt(20) == 0 ? form(3) : second) + " ";
+        return first + " " + (dice.nextInt(20) == 0 ? form(3) : marked(first, 2)) + " ";
     }
 
     private String days() {
@@ -170,7 +185,9 @@ public final class ModelTest {
         StringBuilder text = new StringBuilder(dice.nextInt(4) == 0 ? " " : "");
         int words = dice.nextInt(40) == 0 ? dice.nextInt(17) : dice.nextInt(7);
         for (int k = 0; k < words; k++) {
-            text.append(dice.nextInt(12) == 0 ? "=" : "").append(form(dice.nextInt(60) == 0 ? 14 : 3));
+            String word = told.isEmpty() || dice.nextInt(3) == 0 ? form(dice.nextInt(60) == 0 ? 14 : 3)
+                    : marked(told.get(dice.nextInt(told.size())), 9);
+            text.append(dice.nextInt(12) == 0 ? "=" : "").append(word);
             text.append(dice.nextInt(6) == 0 ? "  " : k + 1 < words || dice.nextInt(3) == 0 ? " " : "");
         }
         return spoilt(text, 8);

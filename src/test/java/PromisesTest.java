@@ -290,6 +290,11 @@ public final class PromisesTest {
         check.due("ways(100)", x.ways(100), 9);
         check.due("ways(101)", x.ways(101), -1);
         check.due("ways(-1)", x.ways(-1), -1);
+        MarkBench edge = Check.bench("word a 0 0; word A 1 99; word b 2 0; pair 1 2 1;", 0, "a b");
+        check.due("one below the edge", edge.ways(99), 1);
+        check.due("just at the edge", edge.ways(100), 2);
+        edge = Check.bench("word a 0 0; word A 1 99; word b 2 0; pair 2 1 2;", 0, "b a");
+        check.due("just beyond the edge", edge.ways(100), 1);
         x.ask(100);
         x.metre(3);
         check.due("ways(0) by 3", x.ways(0), 2);
@@ -396,6 +401,12 @@ public final class PromisesTest {
         check.due("nothing learnt", x.entry(0, 2) + x.entry(1, 2), 0);
         Check.line(x, 0, "a");
         check.due("hands begin at 0", x.settle(0, 1), 0);
+        check.due("none of them is taken back yet", x.back(0), true);
+        check.due("settle(0, 0)", x.settle(0, 0), 1);
+        for (int k = 0; k < 3; k++) {
+            Check.book(x, "word a 0 9; word A 1 9;");
+            check.due("nothing is learnt in any later book", x.entry(0, 2) + x.entry(1, 2), 0);
+        }
     }
 
     /** Promise 18. */
