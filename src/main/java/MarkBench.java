@@ -33,13 +33,12 @@ public final class MarkBench {
     private static final int FAR = 1000000;
 
     private final char[] tape = new char[MOST_TAPE];
-    private final BookReader reader = new BookReader();
+    private final BookReader reader = new BookReader(tape);
     private final Hands hands = new Hands();
     private final Choices choices = new Choices();
     private final Sheet sheet = new Sheet(choices);
     private int tapeLength = 0;
     private Book book = new Book();
-    private Book spareBook = new Book();
     private Line line = new Line();
     private Line spareLine = new Line();
     private int faultKind = 0;
@@ -71,15 +70,15 @@ public final class MarkBench {
     }
 
     public int book() {
-        boolean sound = reader.read(tape, tapeLength, spareBook);
+        boolean sound = reader.read(tapeLength);
         faultKind = reader.fault;
         faultAt = reader.faultAt;
         if (!sound) {
             return NONE;
         }
         Book old = book;
-        book = spareBook;
-        spareBook = old;
+        book = reader.book;
+        reader.book = old;
         tapeLength = 0;
         line.clear();
         hands.clear();
@@ -534,21 +533,23 @@ public final class MarkBench {
 
         int fault = 0;
         int faultAt = NONE;
+        /** What is read goes here; it is of use only if there was no fault, and then another one takes its place. */
+        Book book = new Book();
+        private final char[] text;
         private final Tokens tokens = new Tokens();
-        private char[] text = null;
-        private Book book = null;
         private int next = 0;
         private int sort = Tokens.TEXT_END;
         private int at = 0;
         private int length = 0;
         private int value = 0;
 
-        /** Fills the book that is handed in; what it holds after a fault is of no use. */
-        boolean read(char[] from, int fromLength, Book into) {
-            text = from;
-            book = into;
+        BookReader(char[] tape) {
+            text = tape;
+        }
+
+        boolean read(int textLength) {
             book.clear();
-            tokens.split(from, fromLength);
+            tokens.split(text, textLength);
             fault = 0;
             faultAt = NONE;
             next = 0;
@@ -1384,7 +1385,7 @@ public final class MarkBench {
         private final int[] ifRead = new int[MOST_WORDS * SLOTS];
         private final boolean[] ifReadKnown = new boolean[MOST_WORDS];
         int least = 0;
-        private int[] pairCosts = null;
+        private int[] pairCosts = new int[KINDS * KINDS];
         private int metre = NONE;
         private boolean solved = false;
         private boolean counted = false;
@@ -1402,7 +1403,7 @@ public final class MarkBench {
         }
 
         private void workOut() {
-            if (solved || pairCosts == null) {
+            if (solved) {
                 return;
             }
             solved = true;

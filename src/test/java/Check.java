@@ -63,18 +63,58 @@ final class Check {
 
     static String spelling(MarkBench x, int word, int reading) {
         StringBuilder letters = new StringBuilder();
-        for (int k = 0; x.letter(word, reading, k) >= 0; k++) {
-            letters.append((char) x.letter(word, reading, k));
+        for (int c = x.letter(word, reading, 0); c >= 0; c = x.letter(word, reading, letters.length())) {
+            letters.append((char) c);
         }
         return letters.toString();
     }
 
+    /** One call a byte: a bench answers 512 calls alone. */
     static String text(MarkBench x, int gap) {
         StringBuilder bytes = new StringBuilder();
-        for (int k = 0; x.text(gap, k) >= 0; k++) {
-            bytes.append((char) x.text(gap, k));
+        for (int c = x.text(gap, 0); c >= 0; c = x.text(gap, bytes.length())) {
+            bytes.append((char) c);
         }
         return bytes.toString();
+    }
+
+    /** A book that a new bench refuses, with the fault and the place that is due. */
+    void bad(String text, int fault, int place) {
+        MarkBench x = new MarkBench();
+        due("book of '" + text + "'", book(x, text), -1);
+        due("fault(0) of '" + text + "'", x.fault(0), fault);
+        due("fault(1) of '" + text + "'", x.fault(1), place);
+        due("bytes kept of '" + text + "'", x.about(9), text.length());
+    }
+
+    /** A book that a new bench takes, with how many words it has. */
+    void good(String text, int words) {
+        MarkBench x = new MarkBench();
+        due("book of '" + text + "'", book(x, text), words);
+        due("words of '" + text + "'", x.about(0), words);
+        due("fault(0) of '" + text + "'", x.fault(0), 0);
+        due("fault(1) of '" + text + "'", x.fault(1), -1);
+        due("bytes left of '" + text + "'", x.about(9), 0);
+    }
+
+    /** A line that a new bench refuses, with the place that is due. */
+    void badLine(String text, int place) {
+        MarkBench x = new MarkBench();
+        due("line of '" + text + "'", line(x, 0, text), -1);
+        due("fault(0) of '" + text + "'", x.fault(0), 1);
+        due("fault(1) of '" + text + "'", x.fault(1), place);
+        due("bytes kept of '" + text + "'", x.about(9), text.length());
+    }
+
+    /** A line that a new bench takes, with how many words it has. */
+    void goodLine(String text, int words) {
+        MarkBench x = new MarkBench();
+        due("line of '" + text + "'", line(x, 0, text), words);
+        due("words of '" + text + "'", x.about(4), words);
+        due("fault(0) of '" + text + "'", x.fault(0), 0);
+        due("fault(1) of '" + text + "'", x.fault(1), -1);
+        due("bytes of '" + text + "'", x.about(5), text.length());
+        due("bytes left of '" + text + "'", x.about(9), 0);
     }
 
     void same(String call, String got, String want) {

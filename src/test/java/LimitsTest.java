@@ -103,7 +103,7 @@ public final class LimitsTest {
         long start = System.nanoTime();
         MarkBench x = Check.bench(book.toString(), 0, repeat("aaaaaaaaaaaa", 14));
         long sum = 0;
-        for (int k = 0; k < 60; k++) {
+        for (int k = 0; k < 55; k++) {
             x.metre(200 + k);
             sum += x.ways(100) + x.ask(k) + x.best() + x.text(k, k) + x.settle(k % 14, 0) + x.readings(0);
             sum += x.back(k) ? 1 : 0;

@@ -5,7 +5,9 @@ import java.util.Random;
 /** Runs of calls by chance (the same each time), each answered by the class and by the model. */
 public final class ModelTest {
     private static final int RUNS = 4000;
-    private static final int CALLS = 150;
+    private static final int STEPS = 50;
+    /** Behind 512 calls every answer is free; a step makes some forty at most. */
+    private static final int MOST_CALLS = 460;
     private static final long MOST_WAYS = 5000;
 
     private final Check check = new Check();
@@ -13,6 +15,7 @@ public final class ModelTest {
     private MarkBench x;
     private Model y;
     private String trace = "";
+    private int calls = 0;
     /** What the latest book's text tells as words, for lines to take up. */
     private final List<String> told = new ArrayList<>();
 
@@ -28,10 +31,10 @@ public final class ModelTest {
         x = new MarkBench();
         y = new Model();
         trace = "";
-        int calls = 0;
-        while (calls < CALLS) {
-            int what = calls == 0 ? 0 : dice.nextInt(12);
-            if (what == 0 && dice.nextInt(calls == 0 ? 1 : 3) == 0) {
+        calls = 0;
+        for (int step = 0; step < STEPS && calls < MOST_CALLS; step++) {
+            int what = step == 0 ? 0 : dice.nextInt(12);
+            if (what == 0 && dice.nextInt(step == 0 ? 1 : 3) == 0) {
                 feed(bookText());
                 due("book()", x.book(), y.book());
             } else if (what <= 2) {
@@ -49,7 +52,6 @@ public final class ModelTest {
                 int hand = dice.nextInt(12) - 1;
                 due("back(" + hand + ")", x.back(hand) ? 1 : 0, y.back(hand) ? 1 : 0);
             }
-            calls += 3;
             if (y.manyWays() <= MOST_WAYS) {
                 askAbout(1 + dice.nextInt(6));
             }
@@ -57,6 +59,7 @@ public final class ModelTest {
     }
 
     private void due(String call, long got, long want) {
+        calls++;
         trace += call + "=" + want + "; ";
         check.due(got == want ? call : trace, got, want);
     }
@@ -101,8 +104,7 @@ public final class ModelTest {
 
     private void feed(String text) {
         trace += "'" + text + "' ";
-        x.end(0);
-        y.end(0);
+        due("end(0)", x.end(0), y.end(0));
         for (int at = 0; at < text.length(); at += 20) {
             int[] n = new int[5];
             for (int k = 0; k < 5; k++) {
