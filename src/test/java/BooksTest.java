@@ -96,6 +96,13 @@ public final class BooksTest {
             check.due("the word of the book of " + c, x.reading(0, 0, 4), 0);
             check.due("its letter", x.letter(0, 0, 0), other);
             check.due("the word of the book of " + other, x.reading(1, 0, 4), 0);
+            x = Check.bench("word " + c + " 1 1; end " + other + c + " " + other + other + " 2 2;", 0, c + " " + other + " " + c + other);
+            check.due("the word of the book of " + c, x.reading(0, 0, 4), 0);
+            check.due("it has not the mark of " + other, x.reading(1, 0, 4), -1);
+            check.due("an end with the mark of " + other, x.reading(2, 0, 0), 2);
+            x = Check.bench("end " + other + " " + c + " 2 2;", 0, c + " " + other);
+            check.due("an end without the mark: " + c, x.reading(0, 0, 0), 2);
+            check.due("an end without the mark: " + other, x.reading(1, 0, 0), 0);
         }
     }
 
@@ -129,6 +136,11 @@ public final class BooksTest {
         }
         check.due("2001 bytes do not fit the tape", Check.feed(new MarkBench(), " ".repeat(2001)), false);
         check.bad("name a;" + ";".repeat(1993), 2, 7);
+        check.bad(";".repeat(2000), 2, 0);
+        check.bad(";".repeat(1999) + "$", 2, 0);
+        check.bad("1;".repeat(1000), 2, 0);
+        check.bad("a".repeat(2000), 2, 0);
+        check.bad("1".repeat(2000), 2, 0);
         check.good("", 0);
         check.good(" ", 0);
         check.bad("a", 2, 0);

@@ -9,6 +9,8 @@ public final class LimitsTest {
         LimitsTest test = new LimitsTest();
         test.manyWays();
         test.waysByMarks();
+        test.widestMarks();
+        test.lastCall();
         test.heaviest();
         test.dearestRun();
         test.check.end();
@@ -60,6 +62,65 @@ public final class LimitsTest {
             x.metre(weight);
             check.due("ways(0) by " + weight, x.ways(0), want);
         }
+    }
+
+    private static long[] times(long[] ways, long[] word) {
+        long[] product = new long[ways.length + word.length - 1];
+        for (int k = 0; k < ways.length; k++) {
+            for (int more = 0; more < word.length; more++) {
+                product[k + more] += ways[k] * word[more];
+            }
+        }
+        return product;
+    }
+
+    /** Words of none, one or all of twelve vowels marked, of four kinds each; some of them have six marks already. */
+    private void widestMarks() {
+        StringBuilder book = new StringBuilder();
+        for (int kind = 0; kind < 4; kind++) {
+            for (int marks : new int[] {0, 1, 12}) {
+                book.append("word ").append("A".repeat(marks)).append("a".repeat(12 - marks)).append(' ').append(kind).append(" 0;");
+            }
+        }
+        for (int kind = 0; kind < 4; kind++) {
+            for (int marks : new int[] {6, 7, 12}) {
+                book.append("word ").append("E".repeat(marks)).append("e".repeat(12 - marks)).append(' ').append(kind).append(" 0;");
+            }
+        }
+        long[] open = new long[13];
+        open[0] = open[1] = open[12] = 4;
+        long[] half = new long[13];
+        half[6] = half[7] = half[12] = 4;
+        for (int halves : new int[] {0, 4, 14}) {
+            StringBuilder line = new StringBuilder();
+            long[] byMarks = {1};
+            for (int word = 0; word < 14; word++) {
+                boolean isHalf = word % 3 == 0 && halves == 4 && word < 12 || halves == 14;
+                line.append(isHalf ? "EEEEEEeeeeee " : "aaaaaaaaaaaa ");
+                byMarks = times(byMarks, isHalf ? half : open);
+            }
+            MarkBench x = Check.bench(book.toString(), 0, line.toString());
+            for (int marks = 0; marks <= 168; marks++) {
+                x.metre(168 + marks);
+                check.due("ways(0) by " + marks + " marks", x.ways(0), byMarks[marks]);
+                check.due("best() by " + marks + " marks", x.best(), byMarks[marks] == 0 ? -2 : 0);
+            }
+        }
+    }
+
+    /** An object answers 512 calls: the last as the first. */
+    private void lastCall() {
+        MarkBench x = Check.bench("word a 0 9; word A 1 8;", 0, "a a");
+        // five calls made the book, four the line
+        int calls = 9;
+        for (int weight = 2; calls <= 508; weight = weight % 4 + 1) {
+            check.due("metre(" + weight + ")", x.metre(weight), true);
+            check.due("best() by " + weight, x.best(), weight == 1 ? -2 : 20 - weight);
+            calls += 2;
+        }
+        check.due("the 510th", x.metre(-1), true);
+        check.due("the 511th", x.settle(1, 1), 0);
+        check.due("the 512th", x.best(), 14);
     }
 
     /** Costs as high as can be: no sum is lost. */

@@ -36,6 +36,7 @@ public final class LinesTest {
         test.through();
         test.nearByAGap();
         test.gapOfAHundred();
+        test.gapOfAHundredByAMetre();
         test.sureIfSpelledAlike();
         test.check.end();
     }
@@ -591,6 +592,35 @@ public final class LinesTest {
                 check.due("ways by no gap", x.ways(gap), -1);
                 check.due("ask by no gap", x.ask(gap), -1);
                 check.due("text by no gap", x.text(gap, 0), -1);
+            }
+        }
+    }
+
+    /** "a GAP (0 .. 100)", with a METRE that leaves ways of many weights up to each word. */
+    private void gapOfAHundredByAMetre() {
+        for (int apart = 99; apart <= 102; apart++) {
+            for (int ahead = 0; ahead <= 3; ahead++) {
+                // by the metre one of the two is marked; the first of them so costs 99 more, and by its pair up to 3
+                String book = "word e 1 0; word E 2 99; word i 3 0; word I 4 0; pair 2 3 " + (apart - 99) + "; word xyz 6 0;";
+                MarkBench x = Check.bench(book, 0, "xyz ".repeat(ahead) + "e i");
+                x.metre(3);
+                check.due("best", x.best(), 0);
+                check.due("through", x.reading(ahead, 1, 5), apart);
+                check.due("ways by 98", x.ways(98), 1);
+                check.due("ways by 99", x.ways(99), apart <= 99 ? 2 : 1);
+                check.due("ways by 100", x.ways(100), apart <= 100 ? 2 : 1);
+                check.due("sure by 100", x.sure(ahead, 100), apart <= 100 ? 0 : 1);
+                check.due("sure by 100, the other", x.sure(ahead + 1, 100), apart <= 100 ? 0 : 1);
+            }
+        }
+        // unmarked the first word is 99 dearer, and another one must be marked for it then
+        for (int cost = 0; cost <= 3; cost++) {
+            String book = "word ee 1 99; word Ee 1 0; word EE 1 0; word i 3 0; word I 3 " + cost + ";";
+            MarkBench x = Check.bench(book, 0, "ee i i");
+            long[] within = {1, cost <= 1 ? 3 : 1, cost == 0 ? 4 : 3, 3, 1};
+            for (int weight = 4; weight <= 8; weight++) {
+                x.metre(weight);
+                check.due("ways(100) by " + weight, x.ways(100), within[weight - 4]);
             }
         }
     }
