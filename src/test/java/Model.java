@@ -365,7 +365,7 @@ final class Model {
             int pair = 0;
             if (n > 0) {
                 int before = readings.get(n - 1).get(picks[n - 1]).kind;
-                pair = book.pairs.getOrDefault(before + "," + reading.kind, 0);
+                pair = pair(before, reading.kind);
             }
             if (pair >= 0) {
                 picks[n] = r;
@@ -380,6 +380,16 @@ final class Model {
             product *= of.size();
         }
         return product;
+    }
+
+    /** All readings, for what goes through lines that are too long to list. */
+    List<List<Reading>> all() {
+        return readings;
+    }
+
+    /** What a pair costs, 0 if it is not told, NONE if it is barred. */
+    int pair(int before, int kind) {
+        return book.pairs.getOrDefault(before + "," + kind, 0);
     }
 
     private Reading at(int word, int reading) {
