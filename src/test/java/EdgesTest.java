@@ -19,6 +19,7 @@ public final class EdgesTest {
         test.endForgets();
         test.bookAnswersItsWords();
         test.bookEmptiesTapeAndLine();
+        test.bookForgetsTheOneAhead();
         test.bookWithAFault();
         test.lineAnswersItsWords();
         test.lineThatCantBe();
@@ -213,6 +214,24 @@ public final class EdgesTest {
         check.due("the tape is empty", x.end(1), -1);
         check.due("an empty tape is a book, too", x.book(), 0);
         abouts(x, "behind an empty book", 0, 0, 0, 0, 0, 0, 7, 9, 0, 0);
+    }
+
+    /** Promise 4: words, ends, names, pairs, bars and bare of the book ahead are no more. */
+    private void bookForgetsTheOneAhead() {
+        MarkBench x = Check.bench("word a 1 1; end b B 2 2; name c; bare 3 3; bar 3 3; pair 4 4 9; pair 7 1 9;", 0, "a b c d d");
+        check.due("best()", x.best(), -2);
+        check.due("another book", Check.book(x, "word e 4 0; pair 0 4 1;"), 1);
+        Check.line(x, 0, "a b c d e e");
+        for (int word = 0; word < 4; word++) {
+            check.due("readings(" + word + ")", x.readings(word), 1);
+            check.due("kind of " + word, x.reading(word, 0, 0), 0);
+            check.due("cost of " + word, x.reading(word, 0, 1), 50);
+        }
+        check.due("best()", x.best(), 201);
+        check.due("a book with a fault", Check.book(x, "word a 1 1; end b B 2 2; name c; bare 3 3; bar 0 0; $"), -1);
+        check.due("nothing of it counts", x.best(), 201);
+        Check.line(x, 0, "a b c d e e");
+        check.due("nor in another line", x.best(), 201);
     }
 
     /** Promise 4: "NONE: a FAULT (all stays)". */
@@ -574,6 +593,13 @@ public final class EdgesTest {
         check.due("text(100, 11)", x.text(100, 11), ' ');
         Check.line(x, 0, "");
         check.due("text(0, 0) of no bytes", x.text(0, 0), -1);
+        x.metre(-1);
+        Check.line(x, 0, "   parler");
+        check.same("a line", Check.text(x, 0), "   parlEr");
+        Check.line(x, 0, "=er er");
+        check.same("a shorter one behind it", Check.text(x, 0), "=er Er");
+        Check.line(x, 0, "er           er");
+        check.same("a longer one behind it", Check.text(x, 0), "Er           Er");
         Check.line(x, 0, " ");
         check.due("text(0, 0) of a blank", x.text(0, 0), ' ');
         check.due("text(0, 1) of a blank", x.text(0, 1), -1);

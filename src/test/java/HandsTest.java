@@ -240,7 +240,7 @@ public final class HandsTest {
         MarkBench x = Check.bench(TWO, 0, "a a");
         x.settle(0, 0);
         x.settle(1, 1);
-        x.back(1);
+        x.back(0);
         check.due("the same book", Check.book(x, TWO), 2);
         check.due("hands", x.about(8), 0);
         costs(x, "nothing", 9, 9);
@@ -250,6 +250,8 @@ public final class HandsTest {
         check.due("all readings", x.readings(0) * 10 + x.readings(1), 22);
         check.due("cost", x.reading(0, 0, 1), 9);
         check.due("numbers begin anew", x.settle(1, 1), 0);
+        check.due("it stands", x.readings(1), 1);
+        check.due("it is learnt", x.entry(1, 2), 1);
         check.due("and it is not taken back yet", x.back(0), true);
         check.due("twice", x.back(0), false);
         Check.book(x, TWO);

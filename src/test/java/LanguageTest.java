@@ -6,7 +6,9 @@ import java.nio.file.Files;
 import java.nio.file.Path;
 import java.util.Arrays;
 import java.util.List;
+import java.util.Map;
 import java.util.Set;
+import java.util.TreeMap;
 import java.util.TreeSet;
 import java.util.regex.Matcher;
 import java.util.regex.Pattern;
@@ -29,7 +31,9 @@ public final class LanguageTest {
         test.face();
         test.classes();
         test.words();
+        test.library();
         test.methodLengths();
+        test.callDepth();
         test.check.end();
     }
 
@@ -116,6 +120,85 @@ public final class LanguageTest {
                     .contains(imports.group(1)), true);
         }
         check.due("a text joined by +", Pattern.compile("\"\\s*\\+|\\+\\s*\"").matcher(code).find(), false);
+    }
+
+    /** Rule 4: of the library only these. */
+    private void library() throws Exception {
+        Set<String> allowed = Set.of("Math.min", "Math.max", "Arrays.fill", "System.arraycopy", "VOWELS.indexOf");
+        Matcher calls = Pattern.compile("\\b([A-Z]\\w*\\.\\w+)\\(").matcher(code());
+        Set<String> own = new TreeSet<>();
+        for (Class<?> inside : MarkBench.class.getDeclaredClasses()) {
+            for (Method method : inside.getDeclaredMethods()) {
+                own.add(inside.getSimpleName() + "." + method.getName());
+            }
+        }
+        while (calls.find()) {
+            check.due("the call " + calls.group(1), allowed.contains(calls.group(1)) || own.contains(calls.group(1)), true);
+        }
+        Matcher made = Pattern.compile("\\bnew (\\w+)").matcher(code());
+        while (made.find()) {
+            String type = made.group(1);
+            boolean isOwn = Arrays.stream(MarkBench.class.getDeclaredClasses()).anyMatch(c -> c.getSimpleName().equals(type));
+            check.due("new " + type, isOwn || Set.of("int", "long", "char", "boolean").contains(type), true);
+        }
+    }
+
+    /** Every method with its calls, by class and name; a call without a name ahead of it is one of its own class. */
+    private static Map<String, Set<String>> callGraph() throws Exception {
+        Map<String, Set<String>> calls = new TreeMap<>();
+        Map<String, String> bodies = new TreeMap<>();
+        String owner = "MarkBench";
+        String method = null;
+        for (String row : code().split("\n")) {
+            Matcher type = Pattern.compile(" {4}private static final class (\\w+).*").matcher(row);
+            Matcher head = Pattern.compile(" {4,8}(?:public |private |static )*(?:[\\w\\[\\]]+ )?(\\w+)\\([^()]*\\) \\{").matcher(row);
+            if (type.matches()) {
+                owner = type.group(1);
+            } else if (head.matches() && !Set.of("if", "for", "while", "switch").contains(head.group(1))) {
+                method = owner + "." + head.group(1);
+                bodies.put(method, "");
+            } else if (method != null) {
+                bodies.merge(method, row + "\n", String::concat);
+            }
+        }
+        for (String from : bodies.keySet()) {
+            Matcher call = Pattern.compile("([\\w.\\]]*\\.)?(\\w+)\\(").matcher(bodies.get(from));
+            Set<String> found = new TreeSet<>();
+            while (call.find()) {
+                String name = call.group(2);
+                String own = from.substring(0, from.indexOf('.') + 1) + name;
+                if (call.group(1) == null && bodies.containsKey(own)) {
+                    found.add(own);
+                } else if (call.group(1) != null) {
+                    boolean isLibrary = Set.of("Math.", "Arrays.", "System.").contains(call.group(1));
+                    bodies.keySet().stream().filter(b -> !isLibrary && b.endsWith("." + name)).forEach(found::add);
+                    found.add("library");
+                }
+            }
+            calls.put(from, found);
+        }
+        return calls;
+    }
+
+    private static int depth(Map<String, Set<String>> calls, String from, int above) {
+        if (above > 20) {
+            return above;
+        }
+        int deepest = 0;
+        for (String called : calls.getOrDefault(from, Set.of())) {
+            deepest = Math.max(deepest, depth(calls, called, above + 1));
+        }
+        return deepest + 1;
+    }
+
+    /** Rule 11: calls go at most eight deep, the library's own counted; none comes back to itself. */
+    private void callDepth() throws Exception {
+        Map<String, Set<String>> calls = callGraph();
+        check.due("methods are found", calls.size() > 100, true);
+        for (String from : calls.keySet()) {
+            int deep = depth(calls, from, 0);
+            check.due("calls of " + from + ", " + deep + " deep, stay within eight", deep <= 8, true);
+        }
     }
 
     private void methodLengths() throws Exception {
