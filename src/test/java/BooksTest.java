@@ -513,7 +513,7 @@ public final class BooksTest {
         check.due("the end of 2000 bytes", x.fault(1), 2000);
     }
 
-    /** "1 no TOKEN": in the place of each token, and directly behind each. */
+    /** "1 no TOKEN", "at one place the least": it can't stand there either, but 1 is told, not 2; in and behind each token. */
     private void noToken() {
         for (String[] line : LINES) {
             for (int k = 0; k < line.length; k++) {
