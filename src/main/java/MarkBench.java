@@ -1266,9 +1266,9 @@ public final class MarkBench {
         private final Walk walk;
         private final Choices choices;
         final long[] within = new long[LOSSES];
-        /** Made at the first use, since it is by far the largest and many a bench never counts. */
-        private long[] here = null;
-        private long[] there = null;
+        /** Made long enough at the first use, since it is by far the largest and many a bench never counts. */
+        private long[] here = new long[0];
+        private long[] there = new long[0];
 
         Tally(Walk walk) {
             this.walk = walk;
@@ -1277,7 +1277,7 @@ public final class MarkBench {
 
         /** The walk must have been solved for the whole line just before. */
         void count(int best) {
-            if (here == null || there == null) {
+            if (here.length < LAYER || there.length < LAYER) {
                 here = new long[LAYER];
                 there = new long[LAYER];
             }
