@@ -23,7 +23,7 @@ public final class LanguageTest {
             "int settle(int,int)", "boolean back(int)", "int ask(int)", "int entry(int,int)", "int about(int)");
     private static final List<String> BANNED = List.of("throw", "throws", "try", "catch", "finally", "synchronized",
             "assert", "->", "::", "protected", "volatile", "transient", "native", "Exact", "random", "System.out",
-            "System.nanoTime", "hashCode", "Object", "var", "package");
+            "System.nanoTime", "hashCode", "Object", "var", "package", "null");
     private final Check check = new Check();
 
     public static void main(String[] args) throws Exception {
